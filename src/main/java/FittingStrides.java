@@ -66,7 +66,7 @@ public final class FittingStrides {
             return -10 - text.faultKind;
         }
         faultByte = NONE;
-        now.become(text.draft);
+        now.becomeTold(text.draft);
         for (int i = 0; i < MOST_IMAGES; i++) {
             kept[i] = false;
         }
@@ -451,11 +451,6 @@ public final class FittingStrides {
             return hasStair(r) && part >= 0 && part < parts[r];
         }
 
-        void clear() {
-            places = 0;
-            stairs = 0;
-        }
-
         void become(Plan other) {
             places = other.places;
             stairs = other.stairs;
@@ -497,13 +492,7 @@ public final class FittingStrides {
             }
         }
 
-        void clear() {
-            persons = 0;
-            for (int r = 0; r < MOST_STAIRS; r++) {
-                worn[r] = 0;
-            }
-        }
-
+        /** Takes over what a text tells; law and seed, which none tells, stay. */
         void becomeTold(State other) {
             persons = other.persons;
             for (int p = 0; p < MOST_PERSONS; p++) {
@@ -515,12 +504,15 @@ public final class FittingStrides {
                 steps[i] = other.steps[i];
             }
             for (int r = 0; r < MOST_STAIRS; r++) {
-                worn[r] = other.worn[r];
+                worn[r] = 0;
             }
         }
 
         void become(State other) {
             becomeTold(other);
+            for (int r = 0; r < MOST_STAIRS; r++) {
+                worn[r] = other.worn[r];
+            }
             law = other.law;
             seed = other.seed;
         }
@@ -540,12 +532,12 @@ public final class FittingStrides {
         private final int[] liftsDown = new int[MOST_PERSONS];
 
         void clear() {
-            plan.clear();
-            state.clear();
+            plan.places = 0;
+            plan.stairs = 0;
+            state.persons = 0;
         }
 
-        /** Law and seed are not told in a text, so they stay. */
-        void become(Town other) {
+        void becomeTold(Town other) {
             plan.become(other.plan);
             state.becomeTold(other.state);
         }

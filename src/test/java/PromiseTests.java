@@ -146,6 +146,21 @@ public final class PromiseTests {
         dueFault("places 2;stair plainopen 0 1 5;", 1, 15);
         dueFault("places 2;stair pLain 0 1 5;", 1, 15);
         dueFault("places 2;stair plaiN 0 1 5;", 1, 15);
+        dueFault("places 2;stair plainz 0 1 5;", 1, 15);
+        dueFault("places 2;stair plaina 0 1 5;", 1, 15);
+        dueFault("places 2;stair plain{ 0 1 5;", 1, 20);
+        dueFault("places 2;stair plain` 0 1 5;", 1, 20);
+        dueFault("places 2;stair xlain 0 1 5;", 1, 15);
+        dueFault("places 2;stair xpen 0 1 5;", 1, 15);
+        dueFault("places 2;stair xeap 0 1 5;", 1, 15);
+        dueFault("places 2;xtair plain 0 1 5;", 1, 9);
+        dueFault("places 2;xerson 0 5;", 1, 9);
+        dueFault("xlaces 2;", 1, 0);
+        dueFault("places 2:", 1, 8);
+        dueFault("places 2/", 1, 8);
+        dueFault("places /;", 1, 7);
+        dueFault("places :;", 1, 7);
+        dueFault("places 2;person 0 5 :;", 1, 20);
         dueFault("places 2;stair plain open 0 1 5;", 1, 21);
         dueFault("places 2;stair plain 2 1 5;", 2, 21);
         dueFault("places 2;stair plain 0000 1 5;", 2, 21);
@@ -223,6 +238,81 @@ public final class PromiseTests {
         due("told(1)", x.told(1), 0);
         due("told(2)", x.told(2), 0);
         due("law(0)", x.law(0), 1);
+    }
+
+    /** Nothing of an earlier, longer text or greater town shows in a later one. */
+    private static void smallerTowns() {
+        promise = 3;
+        FittingStrides x = townOf("places 2;stair plain 0 1 5,6,7;person 0 12;");
+        feed(x, "places 2;stair plain 0 1 5,6,7;person 0 1");
+        due("a shorter town()", x.town(), -11);
+        due("its fault()", x.fault(), 41);
+        feed(x, "places 2;stair plain 0 1 5,6,7;perso");
+        due("a shorter town()", x.town(), -11);
+        due("its fault()", x.fault(), 31);
+        feed(x, "places 2;stair plain 0 1 6;person 0 3;");
+        due("a lesser town()", x.town(), 2);
+        due("stair(0, 5)", x.stair(0, 5), 0);
+        due("fit(0, 6)", x.fit(0, 6), 1);
+        due("worst(2)", x.worst(2), 1);
+        x.go(0, 0);
+        due("stair(0, 7)", x.stair(0, 7), 2);
+        feed(x, "places 2;stair plain 0 1 5;stair open 0 1 6;person 0 3;person 0 5;");
+        x.town();
+        x.go(0, 1);
+        feed(x, "places 2;stair plain 0 1 7;person 0 3;");
+        x.town();
+        due("told(7)", x.told(7), 0);
+        due("stair(0, 8)", x.stair(0, 8), 0);
+        due("cover()", x.cover(), NONE);
+        due("ask()", x.ask(), 0);
+        due("worst(0)", x.worst(0), NONE);
+        due("reach(0, 3)", x.reach(0, 3), 1);
+    }
+
+    /** As much of all as there may be. */
+    private static void fullTown() {
+        promise = 3;
+        StringBuilder s = new StringBuilder("places 8;");
+        for (int r = 0; r < 10; r++) {
+            s.append("stair plain ").append(r % 8).append(' ').append((r + 1) % 8).append(r < 9 ? " 24,48,720;" : " 6,6,23;");
+        }
+        for (int p = 0; p < 8; p++) {
+            s.append("person ").append(p).append(p < 7 ? " 24 12;" : " 23 24;");
+        }
+        due("bytes", s.length() <= 500 ? 1 : 0, 1);
+        FittingStrides x = townOf(s.toString());
+        due("told(1)", x.told(1), 10);
+        due("told(2)", x.told(2), 8);
+        due("stair(9, 6)", x.stair(9, 6), 23);
+        due("stair(9, 8)", x.stair(9, 8), 0);
+        due("stair(8, 8)", x.stair(8, 8), 255);
+        due("person(7, 3)", x.person(7, 3), 255);
+        due("go(7, 7)", x.go(7, 7), 0);
+        due("stair(7, 7)", x.stair(7, 7), 33);
+        due("told(7)", x.told(7), 33);
+        due("guests(7)", x.guests(7), 127);
+        due("wish(255, 0)", x.wish(255, 0), 552);
+        due("wish(127, 128)", x.wish(127, 128), NONE);
+        due("carried(7, 6, 1)", x.carried(7, 6, 1), 0);
+        due("step(9, 2, 1, 0)", x.step(9, 2, 1, 0), 0);
+        due("worst(0)", x.worst(0), 0);
+        due("worst(2)", x.worst(2), 8);
+        due("best(3)", x.best(3), 24);
+        due("cover()", x.cover(), NONE);
+        due("build(9, 2, 24)", x.build(9, 2, 24), 23);
+        due("step(9, 1, 1, 1)", x.step(9, 1, 1, 1), 0);
+        due("build(9, 0, 12)", x.build(9, 0, 12), 6);
+        due("build(9, 1, 12)", x.build(9, 1, 12), 6);
+        due("stair(9, 8)", x.stair(9, 8), 127);
+        due("cover()", x.cover(), 1);
+        due("write(7, 9)", x.write(7, 9), 1);
+        due("judge()", x.judge(), 0);
+        due("ask()", x.ask(), 0);
+        due("keep(1)", x.keep(1), 1);
+        due("drift(99)", x.drift(99), 8);
+        due("goBack(1)", x.goBack(1), 1);
+        due("told(7)", x.told(7), 33);
     }
 
     private static void latestFault() {
@@ -505,6 +595,7 @@ public final class PromiseTests {
         due("wish(0, 7)", x.wish(0, 7), 1);
         due("wish(0, 8)", x.wish(0, 8), NONE);
         due("wish(16, 0)", x.wish(16, 0), UNKNOWN);
+        due("wish(1, 1)", x.wish(1, 1), NONE);
         due("wish(0, 16)", x.wish(0, 16), UNKNOWN);
         due("wish(-1, 0)", x.wish(-1, 0), UNKNOWN);
         due("wish(0, MIN)", x.wish(0, MIN), UNKNOWN);
@@ -568,6 +659,18 @@ public final class PromiseTests {
         far.law(1);
         due("carried(0, 1, 1): down is free for it", far.carried(0, 1, 1), 2);
         due("carried(0, 2, 1)", far.carried(0, 2, 1), NONE);
+        FittingStrides up = townOf("places 3;stair plain 0 1 7;stair plain 1 2 11;person 1 5;person 0 11;");
+        up.law(1);
+        due("carried(0, 2, 1): who could does not come up", up.carried(0, 2, 1), NONE);
+        due("carried(0, 0, 1): down is free", up.carried(0, 0, 1), 0);
+        FittingStrides down = townOf("places 2;stair plain 0 1 7;person 1 5;person 1 3;person 1 7;");
+        due("carried(0, 0, 1)", down.carried(0, 0, 1), 4);
+        down.law(1);
+        due("carried(0, 0, 1)", down.carried(0, 0, 1), 0);
+        down.law(0);
+        due("carried(0, 0, 1)", down.carried(0, 0, 1), 4);
+        down.build(0, 0, 11);
+        due("carried(0, 0, 1)", down.carried(0, 0, 1), NONE);
         FittingStrides ties = townOf("places 3;stair plain 0 1 6;stair plain 1 2 35;person 0 11;person 1 5;person 0 3;"
                 + "person 0 2;person 1 7;person 0 6;");
         due("carried(0, 2, 0)", ties.carried(0, 2, 0), 2);
@@ -593,6 +696,14 @@ public final class PromiseTests {
         due("step(2, 0, -1, 1): none would stay", x.step(2, 0, -1, 1), OUTSIDE);
         due("step(3, 0, 1, 1): too many", x.step(3, 0, 1, 1), OUTSIDE);
         due("step(3, 0, -1, 1)", x.step(3, 0, -1, 1), 4);
+        due("step(0, 1, -1, 1)", x.step(0, 1, -1, 1), 2);
+        x.build(0, 1, 1);
+        due("step(0, 1, -1, 0)", x.step(0, 1, -1, 0), OUTSIDE);
+        due("step(0, 0, -1, 0)", x.step(0, 0, -1, 0), 0);
+        x.build(0, 1, 720);
+        due("step(0, 1, 1, 0)", x.step(0, 1, 1, 0), OUTSIDE);
+        due("step(0, 1, -1, 1)", x.step(0, 1, -1, 1), 4);
+        x.build(0, 1, 8);
         x.build(0, 0, 719);
         due("step(0, 0, 1, 0)", x.step(0, 0, 1, 0), 2);
         due("stair(0, 4) is as it was", x.stair(0, 4), 719);
@@ -633,6 +744,9 @@ public final class PromiseTests {
         FittingStrides last = townOf("places 2;stair leap 0 1 2,3;stair plain 0 1 6,9,12;person 0 3;");
         due("worst(0)", last.worst(0), 1);
         due("worst(1)", last.worst(1), 0);
+        FittingStrides two = townOf("places 2;stair plain 0 1 1;stair plain 0 1 2;person 0 2;");
+        due("worst(0): of two steps one stays", two.worst(0), 1);
+        due("worst(2)", two.worst(2), 1);
         due("worst(0) of a new one", new FittingStrides().worst(0), NONE);
         due("worst(3) of a new one", new FittingStrides().worst(3), OUTSIDE);
     }
@@ -664,6 +778,7 @@ public final class PromiseTests {
         due("cover(): the least of like ones", y.cover(), 6);
         y.build(0, 0, 11);
         due("cover(): none", y.cover(), NONE);
+        due("cover() by the first", townOf("places 2;stair plain 0 1 5;person 0 5;").cover(), 1);
         due("cover() by one with two", townOf("places 2;stair plain 0 1 5;stair plain 0 1 7;person 0 5;person 1 7;"
                 + "person 1 5 7;").cover(), 4);
         due("cover() of no stairs", townOf("places 2;person 0 5;").cover(), 0);
@@ -701,6 +816,8 @@ public final class PromiseTests {
         due("fits(): 1 7", x.fits(), 65);
         x.law(1);
         due("fits() by law 1", x.fits(), (1 << 24) - 1);
+        x.see(3, 4, true);
+        due("fits() by law 1, up", x.fits(), 65);
     }
 
     private static void asking() {
@@ -728,6 +845,10 @@ public final class PromiseTests {
         due("ask(): both fit both", one.ask(), NONE);
         one.build(1, 0, 1);
         due("ask(): 1 alone", one.ask(), 1);
+        due("ask(): stair 0", townOf("places 2;stair leap 0 1 5;").ask(), 0);
+        FittingStrides out = townOf("places 2;stair leap 0 1 5;stair plain 0 1 12;");
+        out.see(0, 1, false);
+        due("ask(): none of these fits any", out.ask(), NONE);
     }
 
     private static void writing() {
@@ -786,8 +907,10 @@ public final class PromiseTests {
         unborn.write(0, 0);
         unborn.write(1, 0);
         due("judge() of a child", unborn.judge(), NONE);
+        due("stair(0, 8) with the child", unborn.stair(0, 8), 3);
         unborn.goBack(0);
         due("judge() of one that is not born", unborn.judge(), 1);
+        due("stair(0, 8) without it", unborn.stair(0, 8), 1);
     }
 
     private static void seeding() {
@@ -858,6 +981,8 @@ public final class PromiseTests {
         feeding();
         faults();
         towns();
+        smallerTowns();
+        fullTown();
         latestFault();
         tellings();
         stairs();
