@@ -387,6 +387,17 @@ public final class EdgeTests extends Checks {
         due("drift(1), 99 times: seed(0)", daily.seed(0), once.seed(0));
     }
 
+    private static void longUse() {
+        says("An object is used for at most 512 calls after it has been made");
+        String text = "places 2;stair plain 0 1 720,720,720;" + "person 0 1;".repeat(8);
+        FittingStrides x = townOf(text);
+        int drifts = 512 - 2 - (text.length() + 7) / 8;
+        for (int i = 0; i < drifts; i++) {
+            x.drift(99);
+        }
+        due("told(7), the last call: the most that can be WORN", x.told(7), drifts * 99 * 3 * 720);
+    }
+
     // ---- promise 13 to 17
 
     private static void reach() {
@@ -860,6 +871,7 @@ public final class EdgeTests extends Checks {
         draws();
         children();
         days();
+        longUse();
         reach();
         guests();
         wish();

@@ -1,60 +1,11 @@
 /** For each promise its ordinary answers, the edges that the document names, and wrong inputs. */
-public final class PromiseTests {
-    private static final int NONE = -1, UNKNOWN = -1000000001, OUTSIDE = -1000000002, NOT = -1000000003, FULL = -1000000004;
-    private static final int MIN = Integer.MIN_VALUE, MAX = Integer.MAX_VALUE;
-
+public final class PromiseTests extends Checks {
     /** Reach by hand: stairs 0 (plain, two parts), 1 (open), 2 (leap of two like parts), 3 (plain). */
     private static final String TOWN = "places 5;stair plain 0 1 12,18;stair open 1 2 10;stair leap 0 3 5,5;"
             + "stair plain 3 4 7;person 0 3;person 0 5 7;person 1 4 6;person 4 1;";
 
-    private static int wrong = 0;
-    private static int promise = 0;
-
-    private static void due(String call, long got, long want) {
-        if (got != want) {
-            wrong++;
-            System.out.println("promise " + promise + ": " + call + " answered " + got + ", due is " + want);
-        }
-    }
-
-    private static void feed(FittingStrides x, String text) {
-        for (int i = 0; i < text.length(); i += 8) {
-            String some = text.substring(i, Math.min(i + 8, text.length()));
-            long bytes = 0;
-            for (int k = 0; k < some.length(); k++) {
-                bytes = bytes << 8 | some.charAt(k);
-            }
-            x.feed(some.length(), bytes);
-        }
-    }
-
-    private static FittingStrides townOf(String text) {
-        FittingStrides x = new FittingStrides();
-        feed(x, text);
-        if (x.town() < 0) {
-            due("a town of " + text, x.fault(), NONE);
-        }
-        return x;
-    }
-
-    private static void dueFault(String text, int kind, int at) {
-        FittingStrides x = new FittingStrides();
-        feed(x, text);
-        due("town() of '" + text + "'", x.town(), -10 - kind);
-        due("fault() of '" + text + "'", x.fault(), at);
-    }
-
-    private static void dueRight(String text, int places, int stairs, int persons) {
-        FittingStrides x = new FittingStrides();
-        feed(x, text);
-        due("town() of '" + text + "'", x.town(), places);
-        due("fault() of '" + text + "'", x.fault(), NONE);
-        due("told(1) of '" + text + "'", x.told(1), stairs);
-        due("told(2) of '" + text + "'", x.told(2), persons);
-    }
-
     private static void newObject() {
-        promise = 1;
+        says("promise 1");
         FittingStrides x = new FittingStrides();
         for (int what = 0; what <= 7; what++) {
             due("told(" + what + ")", x.told(what), 0);
@@ -75,7 +26,7 @@ public final class PromiseTests {
     }
 
     private static void feeding() {
-        promise = 2;
+        says("promise 2");
         FittingStrides x = new FittingStrides();
         due("feed(0)", x.feed(0, 0), OUTSIDE);
         due("feed(9)", x.feed(9, 0), OUTSIDE);
@@ -105,7 +56,7 @@ public final class PromiseTests {
     }
 
     private static void faults() {
-        promise = 3;
+        says("promise 3");
         dueRight("", 0, 0, 0);
         dueRight("places 1;", 1, 0, 0);
         dueRight("places8;", 8, 0, 0);
@@ -196,7 +147,7 @@ public final class PromiseTests {
     }
 
     private static void towns() {
-        promise = 3;
+        says("promise 3");
         FittingStrides x = townOf(TOWN);
         x.go(0, 0);
         x.see(0, 1, true);
@@ -220,9 +171,9 @@ public final class PromiseTests {
         due("stair(3, 4)", x.stair(3, 4), 7);
         feed(x, "places 3;stair leap 2 1 9;person 2 9;");
         due("town()", x.town(), 3);
-        promise = 4;
+        says("promise 4");
         due("fault()", x.fault(), NONE);
-        promise = 3;
+        says("promise 3");
         due("told(0)", x.told(0), 3);
         due("told(1)", x.told(1), 1);
         due("told(2)", x.told(2), 1);
@@ -242,7 +193,7 @@ public final class PromiseTests {
 
     /** Nothing of an earlier, longer text or greater town shows in a later one. */
     private static void smallerTowns() {
-        promise = 3;
+        says("promise 3");
         FittingStrides x = townOf("places 2;stair plain 0 1 5,6,7;person 0 12;");
         feed(x, "places 2;stair plain 0 1 5,6,7;person 0 1");
         due("a shorter town()", x.town(), -11);
@@ -272,7 +223,7 @@ public final class PromiseTests {
 
     /** As much of all as there may be. */
     private static void fullTown() {
-        promise = 3;
+        says("promise 3");
         StringBuilder s = new StringBuilder("places 8;");
         for (int r = 0; r < 10; r++) {
             s.append("stair plain ").append(r % 8).append(' ').append((r + 1) % 8).append(r < 9 ? " 24,48,720;" : " 6,6,23;");
@@ -316,7 +267,7 @@ public final class PromiseTests {
     }
 
     private static void latestFault() {
-        promise = 4;
+        says("promise 4");
         FittingStrides x = new FittingStrides();
         feed(x, "places 2;x");
         due("fault() before town()", x.fault(), NONE);
@@ -329,7 +280,7 @@ public final class PromiseTests {
     }
 
     private static void tellings() {
-        promise = 5;
+        says("promise 5");
         FittingStrides x = townOf(TOWN);
         x.feed(3, 0);
         x.law(1);
@@ -352,7 +303,7 @@ public final class PromiseTests {
     }
 
     private static void stairs() {
-        promise = 6;
+        says("promise 6");
         FittingStrides x = townOf(TOWN);
         int[][] want = {{0, 0, 1, 2, 12, 18, 0, 0, 13}, {1, 1, 2, 1, 10, 0, 0, 0, 15}, {2, 0, 3, 2, 5, 5, 0, 0, 10}, {0, 3, 4, 1, 7, 0, 0, 0, 10}};
         for (int r = 0; r < 4; r++) {
@@ -377,7 +328,7 @@ public final class PromiseTests {
     }
 
     private static void persons() {
-        promise = 7;
+        says("promise 7");
         FittingStrides x = townOf(TOWN);
         int[][] want = {{0, 3, 0, 7}, {0, 5, 7, 25}, {1, 4, 6, 7}, {4, 1, 0, 31}};
         for (int p = 0; p < 4; p++) {
@@ -405,7 +356,7 @@ public final class PromiseTests {
     }
 
     private static void fitting() {
-        promise = 8;
+        says("promise 8");
         FittingStrides x = townOf(TOWN);
         for (int s = 1; s <= 24; s++) {
             due("fit(0, " + s + ")", x.fit(0, s), 6 % s == 0 ? 1 : 0);
@@ -426,7 +377,7 @@ public final class PromiseTests {
     }
 
     private static void going() {
-        promise = 9;
+        says("promise 9");
         FittingStrides x = townOf(TOWN);
         due("go(0, 0)", x.go(0, 0), 1);
         due("person(0, 0)", x.person(0, 0), 1);
@@ -466,7 +417,7 @@ public final class PromiseTests {
     }
 
     private static void building() {
-        promise = 10;
+        says("promise 10");
         FittingStrides x = townOf(TOWN);
         due("build(0, 1, 720)", x.build(0, 1, 720), 18);
         due("build(0, 1, 1)", x.build(0, 1, 1), 720);
@@ -483,7 +434,7 @@ public final class PromiseTests {
     }
 
     private static void laws() {
-        promise = 11;
+        says("promise 11");
         FittingStrides x = townOf("places 2;stair plain 0 1 7;person 1 5;");
         due("person(0, 3)", x.person(0, 3), 2);
         due("law(2)", x.law(2), OUTSIDE);
@@ -498,7 +449,7 @@ public final class PromiseTests {
     }
 
     private static void drifting() {
-        promise = 12;
+        says("promise 12");
         FittingStrides x = townOf("places 2;stair open 0 1 10;stair plain 0 1 7;person 0 5;person 1 7;");
         due("drift(0)", x.drift(0), OUTSIDE);
         due("drift(100)", x.drift(100), OUTSIDE);
@@ -548,7 +499,7 @@ public final class PromiseTests {
     }
 
     private static void reaching() {
-        promise = 13;
+        says("promise 13");
         FittingStrides x = townOf(TOWN);
         due("reach(0, 3)", x.reach(0, 3), 7);
         due("reach(0, 5)", x.reach(0, 5), 9);
@@ -567,7 +518,7 @@ public final class PromiseTests {
     }
 
     private static void guesting() {
-        promise = 14;
+        says("promise 14");
         FittingStrides x = townOf(TOWN);
         due("guests(0)", x.guests(0), 14);
         due("guests(1)", x.guests(1), 13);
@@ -582,7 +533,7 @@ public final class PromiseTests {
     }
 
     private static void wishing() {
-        promise = 15;
+        says("promise 15");
         FittingStrides x = townOf(TOWN);
         due("wish(0, 0)", x.wish(0, 0), 1);
         due("wish(3, 0)", x.wish(3, 0), 15);
@@ -613,7 +564,7 @@ public final class PromiseTests {
     }
 
     private static void pairing() {
-        promise = 16;
+        says("promise 16");
         FittingStrides x = townOf(TOWN);
         due("pair(0, 1, 0)", x.pair(0, 1, 0), 1);
         due("pair(0, 2, 0)", x.pair(0, 2, 0), 7);
@@ -632,7 +583,7 @@ public final class PromiseTests {
     }
 
     private static void carrying() {
-        promise = 17;
+        says("promise 17");
         FittingStrides x = townOf(TOWN);
         due("carried(0, 2, 0) by itself", x.carried(0, 2, 0), 0);
         due("carried(0, 2, 1) by itself", x.carried(0, 2, 1), 0);
@@ -682,7 +633,7 @@ public final class PromiseTests {
     }
 
     private static void stepping() {
-        promise = 18;
+        says("promise 18");
         FittingStrides x = townOf("places 2;stair plain 0 1 12,8;stair leap 0 1 5;stair open 0 1 1;stair plain 0 1 720;"
                 + "person 0 4;person 0 2;person 0 11;person 0 6 5;person 0 1;person 1 13;person 1 6;");
         due("step(0, 0, 1, 0)", x.step(0, 0, 1, 0), 0);
@@ -720,7 +671,7 @@ public final class PromiseTests {
     }
 
     private static void worsts() {
-        promise = 19;
+        says("promise 19");
         FittingStrides x = townOf("places 2;stair plain 0 1 7;stair plain 0 1 1,12,12;stair plain 0 1 4,12;stair plain 0 1 12,4;"
                 + "person 0 4;person 0 2;person 0 7;person 0 1;");
         due("worst(0)", x.worst(0), 2);
@@ -752,7 +703,7 @@ public final class PromiseTests {
     }
 
     private static void bests() {
-        promise = 20;
+        says("promise 20");
         FittingStrides x = townOf(TOWN);
         due("best(0)", x.best(0), 1);
         due("best(2)", x.best(2), 1);
@@ -770,7 +721,7 @@ public final class PromiseTests {
     }
 
     private static void covering() {
-        promise = 21;
+        says("promise 21");
         FittingStrides x = townOf(TOWN);
         due("cover()", x.cover(), 8);
         FittingStrides y = townOf("places 2;stair plain 0 1 5;stair plain 0 1 7;stair open 0 1 9;person 0 3;person 1 7;"
@@ -786,7 +737,7 @@ public final class PromiseTests {
     }
 
     private static void seeing() {
-        promise = 22;
+        says("promise 22");
         FittingStrides x = townOf(TOWN);
         due("see(5, 0)", x.see(5, 0, true), UNKNOWN);
         due("see(0, 5)", x.see(0, 5, true), UNKNOWN);
@@ -800,7 +751,7 @@ public final class PromiseTests {
         due("see(5, 0), the 21st", x.see(5, 0, true), UNKNOWN);
         due("told(5)", x.told(5), 20);
         due("see() of no places", new FittingStrides().see(0, 0, true), UNKNOWN);
-        promise = 23;
+        says("promise 23");
         x = townOf(TOWN);
         due("fits()", x.fits(), (1 << 24) - 1);
         x.see(0, 1, true);
@@ -821,7 +772,7 @@ public final class PromiseTests {
     }
 
     private static void asking() {
-        promise = 24;
+        says("promise 24");
         FittingStrides x = townOf("places 3;stair open 0 1 5;stair plain 0 1 12;stair plain 0 1 24;stair plain 1 2 24;"
                 + "stair leap 0 2 9;stair plain 0 1 12,5;");
         due("ask()", x.ask(), 2);
@@ -852,7 +803,7 @@ public final class PromiseTests {
     }
 
     private static void writing() {
-        promise = 25;
+        says("promise 25");
         FittingStrides x = townOf(TOWN);
         due("write(4, 0)", x.write(4, 0), UNKNOWN);
         due("write(0, 4)", x.write(0, 4), UNKNOWN);
@@ -864,7 +815,7 @@ public final class PromiseTests {
         due("write(0, 0), the 41st", x.write(0, 0), FULL);
         due("write(4, 0), the 41st", x.write(4, 0), UNKNOWN);
         due("told(6)", x.told(6), 40);
-        promise = 26;
+        says("promise 26");
         x.see(0, 0, false);
         x.see(0, 0, false);
         due("tear()", x.tear(), 42);
@@ -875,7 +826,7 @@ public final class PromiseTests {
     }
 
     private static void judging() {
-        promise = 27;
+        says("promise 27");
         FittingStrides x = townOf(TOWN);
         due("judge() of nothing", x.judge(), NONE);
         x.write(0, 0);
@@ -914,7 +865,7 @@ public final class PromiseTests {
     }
 
     private static void seeding() {
-        promise = 28;
+        says("promise 28");
         FittingStrides x = townOf("places 2;stair open 0 1 7;person 0 5;");
         due("seed(MAX)", x.seed(MAX), 0);
         due("seed(-1)", x.seed(-1), OUTSIDE);
@@ -927,7 +878,7 @@ public final class PromiseTests {
     }
 
     private static void images() {
-        promise = 29;
+        says("promise 29");
         FittingStrides x = townOf(TOWN);
         due("keep(2)", x.keep(2), UNKNOWN);
         due("keep(-1)", x.keep(-1), UNKNOWN);
@@ -947,7 +898,7 @@ public final class PromiseTests {
         x.see(0, 0, true);
         x.write(0, 0);
         x.feed(2, 0);
-        promise = 30;
+        says("promise 30");
         due("goBack(0)", x.goBack(0), 1);
         due("told(2)", x.told(2), 4);
         due("person(0, 0)", x.person(0, 0), 0);
@@ -1007,9 +958,6 @@ public final class PromiseTests {
         judging();
         seeding();
         images();
-        System.out.println(wrong == 0 ? "all promises are kept" : wrong + " answers are not as due");
-        if (wrong != 0) {
-            System.exit(1);
-        }
+        end();
     }
 }
