@@ -17,6 +17,7 @@ import java.util.regex.Pattern;
 /** The class's members, its source by the rules of LANGUAGE.md that can be looked up, and how much room it takes. */
 public final class FaceTests {
     private static final String SOURCE = "src/main/java/FittingStrides.java";
+    private static final String DOCUMENT = "../shared/DOC.md";
 
     /** As the document has it; a method's line without "public" and its names. */
     private static final String[] FACE = {
@@ -120,6 +121,40 @@ public final class FaceTests {
         check(methods > FACE.length, "the methods' lengths were looked at");
     }
 
+    /** The document's face, word for word and in its order; FACE stands in where the document is not at hand. */
+    private static void document() throws IOException {
+        if (!Files.exists(Path.of(DOCUMENT))) {
+            System.out.println("not looked at: " + DOCUMENT);
+            return;
+        }
+        String document = Files.readString(Path.of(DOCUMENT), StandardCharsets.UTF_8);
+        String source = Files.readString(Path.of(SOURCE), StandardCharsets.UTF_8);
+        Matcher lines = Pattern.compile("(?m)^    (public [^;]*);$").matcher(document);
+        int at = 0;
+        int seen = 0;
+        while (lines.find()) {
+            boolean constants = lines.group(1).contains("=");
+            int found = source.indexOf("\n    " + lines.group(1) + (constants ? ";\n" : " {\n"), at);
+            check(found >= 0, "the document's line in its place: " + lines.group(1));
+            at = Math.max(at, found);
+            seen++;
+        }
+        check(seen == FACE.length + 2, "the document has " + seen + " lines");
+        parts(document, source);
+    }
+
+    /** Each part of the interface begins with the words that the document puts ahead of its calls. */
+    private static void parts(String document, String source) {
+        Matcher parts = Pattern.compile("(?m)^Ahead of the calls `(\\w+)`(?:, `\\w+`)* the interface says: (---- .*)\\.$").matcher(document);
+        int seen = 0;
+        while (parts.find()) {
+            String begin = "    // " + parts.group(2) + "\n\n    public int " + parts.group(1) + "(";
+            check(source.contains(begin), "the part begins so: " + begin);
+            seen++;
+        }
+        check(seen == 5, "the document has " + seen + " parts");
+    }
+
     /** Objects of the class and all that they hold, by walking over the fields. */
     private static long[] room(Object o) throws IllegalAccessException {
         long[] sum = {1, 0};
@@ -160,6 +195,7 @@ public final class FaceTests {
 
     public static void main(String[] args) throws IOException, IllegalAccessException {
         face();
+        document();
         source();
         noObjectInMethods();
         long[] room = room(new FittingStrides());

@@ -852,7 +852,8 @@ public final class PromiseTests extends Checks {
         due("judge() up again", down.judge(), 1);
         FittingStrides unborn = townOf("places 2;stair open 0 1 7;person 0 5;");
         unborn.keep(0);
-        while (unborn.told(2) < 2) {
+        // A broken class may never bear a child; the test must fail then, not run on.
+        for (int day = 0; day < 400 && unborn.told(2) < 2; day++) {
             unborn.drift(1);
         }
         unborn.write(0, 0);
